@@ -29,12 +29,12 @@ public final class ComparisonTest {
         List<String> calls = new ArrayList<>();
         for (int i = 0; i < CALLS; i++) {
             String call = i < 24 ? beginning(i) : any();
-            // A sight is dear, so that only one call in eight is watched for what it changes.
-            String before = i % 8 == run % 8 ? Sight.of(studio) : "";
-            Object answer = Calls.answer(studio, call);
             Object due = Calls.answer(model, call);
+            boolean watched = due instanceof Class;
+            String before = watched ? Sight.of(studio) : "";
+            Object answer = Calls.answer(studio, call);
             calls.add(call + " -> " + answer);
-            boolean changed = due instanceof Class && !before.isEmpty() && !before.equals(Sight.of(studio));
+            boolean changed = watched && !before.equals(Sight.of(studio));
             if (!due.equals(answer) || changed) {
                 System.out.println("run " + run + ": " + String.join("\n", calls) + "\ndue is " + due
                     + (changed ? ", without a change" : ""));

@@ -2,16 +2,23 @@
 final class Sight {
     private static final int MONTHS = 12;
 
+    private final CostStudio studio;
     private final StringBuilder text = new StringBuilder();
 
-    private Sight() {
+    private Sight(CostStudio studio) {
+        this.studio = studio;
     }
 
     static String of(CostStudio studio) {
-        Sight sight = new Sight();
+        Sight sight = new Sight(studio);
+        int scenarios = sight.countScenarios();
+        int lines = sight.countLines();
         for (int month = 0; month < MONTHS; month++) {
-            sight.drivers(studio, month);
-            sight.lines(studio, month);
+            for (int scenario = 0; scenario < scenarios; scenario++) {
+                sight.drivers(scenario, month);
+                sight.numbers(scenario, lines, month);
+            }
+            sight.approvals(lines, month);
         }
         sight.text.append(" month ").append(studio.month()).append(" open ").append(studio.open());
         try {
@@ -22,42 +29,60 @@ final class Sight {
         return sight.text.toString();
     }
 
-    private void drivers(CostStudio studio, int month) {
-        for (int scenario = 0; scenario < 4; scenario++) {
-            for (int driver = 0; driver < 6; driver++) {
-                try {
-                    text.append(studio.driver(scenario, driver, month)).append(' ');
-                } catch (IndexOutOfBoundsException e) {
-                    text.append("- ");
-                }
-            }
-        }
-    }
-
-    private void lines(CostStudio studio, int month) {
-        for (int line = 0; line < 10; line++) {
-            for (int scenario = 0; scenario < 4; scenario++) {
-                try {
-                    text.append(studio.number(scenario, line, month)).append(' ');
-                } catch (IndexOutOfBoundsException e) {
-                    text.append("- ");
-                } catch (UnsupportedOperationException e) {
-                    text.append("none ");
-                }
-            }
-            approval(studio, line, month);
-        }
-    }
-
-    private void approval(CostStudio studio, int line, int month) {
+    /** Without a driver none can be seen. */
+    private int countScenarios() {
+        int count = 0;
         try {
-            text.append(studio.state(line, month)).append(studio.drift(line, month)).append(' ');
+            for (; count < 4; count++) {
+                studio.driver(count, 0, 0);
+            }
+        } catch (IndexOutOfBoundsException e) {
+            text.append(count).append(" scenarios ");
+        }
+        return count;
+    }
+
+    private int countLines() {
+        int count = 0;
+        try {
+            for (; count < 10; count++) {
+                studio.state(count, 0);
+            }
+        } catch (IndexOutOfBoundsException e) {
+            text.append(count).append(" lines ");
+        }
+        return count;
+    }
+
+    private void drivers(int scenario, int month) {
+        try {
+            for (int driver = 0; driver < 6; driver++) {
+                text.append(studio.driver(scenario, driver, month)).append(' ');
+            }
         } catch (IndexOutOfBoundsException e) {
             text.append("- ");
-        } catch (java.util.NoSuchElementException e) {
-            text.append("never ");
-        } catch (UnsupportedOperationException e) {
-            text.append("none ");
+        }
+    }
+
+    private void numbers(int scenario, int lines, int month) {
+        for (int line = 0; line < lines; line++) {
+            try {
+                text.append(studio.number(scenario, line, month)).append(' ');
+            } catch (UnsupportedOperationException e) {
+                text.append("none ");
+            }
+        }
+    }
+
+    private void approvals(int lines, int month) {
+        for (int line = 0; line < lines; line++) {
+            char state = studio.state(line, month);
+            text.append(state);
+            try {
+                text.append(state == '-' ? 0 : studio.drift(line, month)).append(' ');
+            } catch (UnsupportedOperationException e) {
+                text.append("none ");
+            }
         }
     }
 }
