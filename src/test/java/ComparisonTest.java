@@ -46,7 +46,7 @@ public final class ComparisonTest {
 
     /** Drivers, lines and scenarios first, so that the calls after them have something to meet. */
     private String beginning(int i) {
-        if (i < 4) {
+        if (i < 5) {
             return "addDriver(" + value() + ")";
         }
         return i % 3 == 0 ? scenarioCall() : addLine();
@@ -90,7 +90,7 @@ public final class ComparisonTest {
     }
 
     private int driver() {
-        return below(20) == 0 ? pick(ODD) : below(5);
+        return below(20) == 0 ? pick(ODD) : below(6);
     }
 
     private int line() {

@@ -13,6 +13,7 @@ final class Numbers {
         needsNoMoreThanIsNeeded(call);
         takesActualsInEveryScenario(call);
         findsLongChains(call);
+        findsInAFullModel(call);
         refuses(call);
     }
 
@@ -162,6 +163,25 @@ final class Numbers {
         run.seen(call + "(0, 9, 11)", number)
             .due("setDriver(0, 9999)", 0)
             .seen(call + "(0, 9, 11)", 9999 * 512);
+    }
+
+    private static void findsInAFullModel(String call) {
+        Run run = Run.with(call + " in a full model", "addDriver(1)", "addDriver(20)", "addDriver(300)",
+            "addDriver(4000)", "addDriver(5000)", "addDriver(6000)", "addScenario(0)", "addScenario(1)",
+            "addScenario(2)", "addLine('d', 5, 0)", "addLine('d', 4, 0)", "addLine('d', 3, 0)",
+            "addLine('d', 2, 0)", "addLine('d', 1, 0)", "addLine('d', 0, 0)", "addLine('s', 0, 1)",
+            "addLine('m', 2, 3)", "addLine('p', 6, 7)", "addLine('s', 8, 5)");
+        for (int driver = 0; driver < 6; driver++) {
+            run.due("differ(3, " + driver + ", 11, " + (driver + 1) + ")", 2 * driver + 1)
+                .due("differ(3, " + driver + ", 0, 100)", 2 * driver + 2);
+        }
+        run.seen(call + "(0, 9, 0)", 11000 * 37 + 1)
+            .seen(call + "(2, 9, 11)", 11000 * 37 + 1)
+            .seen(call + "(3, 9, 10)", 11200 * 37 + 101)
+            .seen(call + "(3, 0, 11)", 6106)
+            .seen(call + "(3, 7, 11)", 3701)
+            .seen(call + "(3, 9, 11)", 11211 * 3701 / 100 + 102)
+            .seen(call + "(3, 4, 11)", 122);
     }
 
     private static void refuses(String call) {
