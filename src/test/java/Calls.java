@@ -1,8 +1,12 @@
 import java.lang.reflect.InvocationTargetException;
 import java.lang.reflect.Method;
+import java.util.HashMap;
+import java.util.Map;
 
 /** Calls that are written as in the document, such as addLine('s', 0, 1). */
 final class Calls {
+    private static final Map<String, Method> METHODS = new HashMap<>();
+
     private Calls() {
     }
 
@@ -16,7 +20,7 @@ final class Calls {
             values[i] = value(texts[i]);
         }
         try {
-            return method(target, call.substring(0, bracket)).invoke(target, values);
+            return method(target.getClass(), call.substring(0, bracket)).invoke(target, values);
         } catch (InvocationTargetException e) {
             return e.getCause().getClass();
         } catch (IllegalAccessException e) {
@@ -31,12 +35,14 @@ final class Calls {
         return Integer.valueOf(text);
     }
 
-    private static Method method(Object target, String called) {
-        for (Method method : target.getClass().getMethods()) {
-            if (method.getName().equals(called) && method.getDeclaringClass() == target.getClass()) {
-                return method;
+    private static Method method(Class<?> owner, String called) {
+        return METHODS.computeIfAbsent(owner.getName() + "." + called, key -> {
+            for (Method method : owner.getMethods()) {
+                if (method.getName().equals(called) && method.getDeclaringClass() == owner) {
+                    return method;
+                }
             }
-        }
-        throw new IllegalStateException("no method " + called);
+            throw new IllegalStateException("no method " + called);
+        });
     }
 }

@@ -1,10 +1,10 @@
 import java.util.ArrayList;
 import java.util.List;
 
-/** Many runs of 512 calls each, in which the program has to answer every call as the model does. */
+/** Many runs of calls, long and short, in which the program has to answer every call as the model does. */
 public final class ComparisonTest {
-    private static final int RUNS = 40;
-    private static final int CALLS = 512;
+    private static final int RUNS = 120;
+    private static final int[] CALLS = {Sight.MOST_CALLS, 400, 200, 60};
     private static final int[] ODD = {-2147483648, -1, 2147483647, 12, 13};
     private static final int[] TOLERANCES = {0, 0, 1, 5, 40, 300, 9999, 10000, -1};
     private static final int[] GOALS = {-2147483648, 2147483647, 0, 100, 999, 10000, -500, 99999999, -99999999};
@@ -27,17 +27,29 @@ public final class ComparisonTest {
         CostStudio studio = new CostStudio();
         Model model = new Model();
         List<String> calls = new ArrayList<>();
-        for (int i = 0; i < CALLS; i++) {
+        List<String> told = new ArrayList<>();
+        int length = CALLS[run % CALLS.length];
+        for (int i = 0; i < length; i++) {
             String call = i < 24 ? beginning(i) : any();
             Object due = Calls.answer(model, call);
-            boolean watched = due instanceof Class;
-            String before = watched ? Sight.of(studio) : "";
             Object answer = Calls.answer(studio, call);
-            calls.add(call + " -> " + answer);
-            boolean changed = watched && !before.equals(Sight.of(studio));
-            if (!due.equals(answer) || changed) {
-                System.out.println("run " + run + ": " + String.join("\n", calls) + "\ndue is " + due
-                    + (changed ? ", without a change" : ""));
+            calls.add(call);
+            told.add(call + " -> " + answer);
+            if (!due.equals(answer)) {
+                System.out.println("run " + run + ": " + String.join("\n", told) + "\ndue is " + due);
+                return 1;
+            }
+        }
+        return compareSights(run, calls);
+    }
+
+    private static int compareSights(int run, List<String> calls) {
+        List<Object> due = Sight.of(Model::new, calls);
+        List<Object> seen = Sight.of(CostStudio::new, calls);
+        for (int i = 0; i < due.size(); i++) {
+            if (!due.get(i).equals(seen.get(i))) {
+                System.out.println("behind run " + run + ": " + String.join("\n", calls) + "\n" + seen.get(i)
+                    + ", due is " + due.get(i));
                 return 1;
             }
         }

@@ -1,88 +1,98 @@
-/** All that the calls that only look can tell of an object, as one text. */
+import java.util.ArrayList;
+import java.util.Collections;
+import java.util.List;
+import java.util.function.Supplier;
+
+/**
+ * All that can be told of an object behind some calls. It is made anew for it, as often as it takes:
+ * nothing is promised of an object after its 512th call.
+ */
 final class Sight {
+    static final int MOST_CALLS = 512;
+
     private static final int MONTHS = 12;
+    private static final int LINES = 10;
+    private static final int DRIVERS = 6;
+    private static final int SCENARIOS = 4;
+    private static final List<String> LOOKS = looks();
+    /** What the looks leave hidden is told by calls that change the object. */
+    private static final List<List<String>> PROBES = List.of(fillings(), takings());
 
-    private final CostStudio studio;
-    private final StringBuilder text = new StringBuilder();
-
-    private Sight(CostStudio studio) {
-        this.studio = studio;
+    private Sight() {
     }
 
-    static String of(CostStudio studio) {
-        Sight sight = new Sight(studio);
-        int scenarios = sight.countScenarios();
-        int lines = sight.countLines();
+    /** The answers of all looks and probes on an object that has had these calls. */
+    static List<Object> of(Supplier<Object> maker, List<String> calls) {
+        List<Object> answers = new ArrayList<>();
+        int room = MOST_CALLS - calls.size();
+        if (room <= 0) {
+            return answers;
+        }
+        for (int from = 0; from < LOOKS.size(); from += room) {
+            answer(maker, calls, LOOKS.subList(from, Math.min(LOOKS.size(), from + room)), answers);
+        }
+        for (List<String> probe : PROBES) {
+            if (probe.size() <= room) {
+                answer(maker, calls, probe, answers);
+            }
+        }
+        return answers;
+    }
+
+    private static void answer(Supplier<Object> maker, List<String> calls, List<String> looks, List<Object> answers) {
+        Object target = maker.get();
+        for (String call : calls) {
+            Calls.answer(target, call);
+        }
+        for (String look : looks) {
+            answers.add(look + " -> " + Calls.answer(target, look));
+        }
+    }
+
+    private static List<String> looks() {
+        List<String> looks = new ArrayList<>(List.of("month()", "open()", "approvedShare()", "meanTolerance()"));
         for (int month = 0; month < MONTHS; month++) {
-            for (int scenario = 0; scenario < scenarios; scenario++) {
-                sight.drivers(scenario, month);
-                sight.numbers(scenario, lines, month);
+            for (int line = 0; line < LINES; line++) {
+                looks.add("state(" + line + ", " + month + ")");
+                looks.add("drift(" + line + ", " + month + ")");
             }
-            sight.approvals(lines, month);
+            for (int scenario = 0; scenario < SCENARIOS; scenario++) {
+                for (int driver = 0; driver < DRIVERS; driver++) {
+                    looks.add("driver(" + scenario + ", " + driver + ", " + month + ")");
+                }
+                for (int line = 0; line < LINES; line++) {
+                    looks.add("number(" + scenario + ", " + line + ", " + month + ")");
+                }
+            }
         }
-        sight.text.append(" month ").append(studio.month()).append(" open ").append(studio.open());
-        try {
-            sight.text.append(' ').append(studio.approvedShare()).append(' ').append(studio.meanTolerance());
-        } catch (ArithmeticException e) {
-            sight.text.append(" no approvals");
-        }
-        return sight.text.toString();
+        return looks;
     }
 
-    /** Without a driver none can be seen. */
-    private int countScenarios() {
-        int count = 0;
-        try {
-            for (; count < 4; count++) {
-                studio.driver(count, 0, 0);
-            }
-        } catch (IndexOutOfBoundsException e) {
-            text.append(count).append(" scenarios ");
-        }
-        return count;
+    /** How many drivers, scenarios, differences, lines and months there still is room for. */
+    private static List<String> fillings() {
+        List<String> calls = new ArrayList<>(Collections.nCopies(DRIVERS + 1, "addDriver(1)"));
+        calls.addAll(Collections.nCopies(SCENARIOS, "addScenario(0)"));
+        calls.addAll(List.of("differ(2, 0, 0, 1)", "differ(3, 0, 0, 1)"));
+        calls.addAll(Collections.nCopies(13, "differ(1, 0, 0, 1)"));
+        calls.addAll(Collections.nCopies(LINES + 1, "addLine('d', 0, 0)"));
+        calls.addAll(Collections.nCopies(MONTHS, "pass()"));
+        return calls;
     }
 
-    private int countLines() {
-        int count = 0;
-        try {
-            for (; count < 10; count++) {
-                studio.state(count, 0);
-            }
-        } catch (IndexOutOfBoundsException e) {
-            text.append(count).append(" lines ");
-        }
-        return count;
-    }
-
-    private void drivers(int scenario, int month) {
-        try {
-            for (int driver = 0; driver < 6; driver++) {
-                text.append(studio.driver(scenario, driver, month)).append(' ');
-            }
-        } catch (IndexOutOfBoundsException e) {
-            text.append("- ");
-        }
-    }
-
-    private void numbers(int scenario, int lines, int month) {
-        for (int line = 0; line < lines; line++) {
-            try {
-                text.append(studio.number(scenario, line, month)).append(' ');
-            } catch (UnsupportedOperationException e) {
-                text.append("none ");
+    /** Which actuals there are, and, with small numbers everywhere then, which numbers were kept. */
+    private static List<String> takings() {
+        List<String> takings = new ArrayList<>();
+        List<String> drifts = new ArrayList<>();
+        for (int line = 0; line < LINES; line++) {
+            for (int month = 0; month < MONTHS; month++) {
+                takings.add("takeActual(" + line + ", " + month + ")");
+                drifts.add("drift(" + line + ", " + month + ")");
             }
         }
-    }
-
-    private void approvals(int lines, int month) {
-        for (int line = 0; line < lines; line++) {
-            char state = studio.state(line, month);
-            text.append(state);
-            try {
-                text.append(state == '-' ? 0 : studio.drift(line, month)).append(' ');
-            } catch (UnsupportedOperationException e) {
-                text.append("none ");
-            }
+        for (int driver = 0; driver < DRIVERS; driver++) {
+            takings.add("setDriver(" + driver + ", 0)");
         }
+        takings.addAll(drifts);
+        return takings;
     }
 }
