@@ -15,8 +15,11 @@ final class Sight {
     private static final int DRIVERS = 6;
     private static final int SCENARIOS = 4;
     private static final List<String> LOOKS = looks();
-    /** What the looks leave hidden is told by calls that change the object. */
-    private static final List<List<String>> PROBES = List.of(fillings(), takings());
+    /**
+     * What the looks leave hidden is told by calls that change the object. The shorter ones come first, so that
+     * with less room the answers are a beginning of those with more.
+     */
+    private static final List<List<String>> PROBES = List.of(links(), fillings(), takings());
 
     private Sight() {
     }
@@ -68,7 +71,24 @@ final class Sight {
         return looks;
     }
 
-    /** How many drivers, scenarios, differences, lines and months there still is room for. */
+    /** Which parents the scenarios have, and how the lines are linked. */
+    private static List<String> links() {
+        List<String> calls = new ArrayList<>();
+        calls.addAll(List.of("differ(1, 0, 0, 1)", "differ(2, 0, 0, 20)", "differ(3, 0, 0, 300)"));
+        for (int scenario = 0; scenario < SCENARIOS; scenario++) {
+            calls.add("driver(" + scenario + ", 0, 11)");
+        }
+        for (int driver = 0; driver < DRIVERS; driver++) {
+            calls.add("setDriver(" + driver + ", " + (100 + 17 * driver) + ")");
+        }
+        for (int line = 0; line < LINES; line++) {
+            calls.add("number(0, " + line + ", 0)");
+            calls.add("number(0, " + line + ", 11)");
+        }
+        return calls;
+    }
+
+    /** How much room there still is for drivers, scenarios, differences, lines and months. */
     private static List<String> fillings() {
         List<String> calls = new ArrayList<>(Collections.nCopies(DRIVERS + 1, "addDriver(1)"));
         calls.addAll(Collections.nCopies(SCENARIOS, "addScenario(0)"));

@@ -120,6 +120,10 @@ public final class Edges12SeekTest {
         one("a line in the base", 5, "addScenario(0)", "differ(1, 0, 0, 100)")
             .seen("seek(0, 0, 0, 100)", 100)
             .seen("seek(0, 0, 11, 100)", 100);
+        one("a line in the base: the other drivers too", 5, "addDriver(6)", "addLine('d', 1, 0)", "addLine('s', 0, 1)",
+                "addScenario(0)", "differ(1, 1, 0, 50)")
+            .seen("seek(0, 2, 0, 100)", 94)
+            .seen("seek(1, 2, 0, 100)", 95);
     }
 
     private static void theOtherDriversKeepTheirValues() {

@@ -20,11 +20,13 @@ public final class EdgesTermsNumbersTest {
     private static void anActualWhateverTheScenario(String call) {
         Run run = Run.with("its actual in this month, if there is one, whatever the scenario", "addDriver(10)",
             "addLine('d', 0, 0)", "addLine('s', 0, 0)", "addScenario(0)", "addScenario(1)", "addScenario(2)",
-            "differ(1, 0, 0, 1)", "differ(2, 0, 0, 1)", "differ(3, 0, 0, 1)", "pass()", "pass()", "actual(1, 1, -3)");
+            "differ(1, 0, 0, 1)", "differ(2, 0, 0, 1)", "differ(3, 0, 0, 1)", "pass()", "pass()", "actual(1, 1, -3)", "actual(0, 2, 4)");
         for (int scenario = 0; scenario < 4; scenario++) {
             run.seen(call + "(" + scenario + ", 1, 1)", -3)
                 .seen(call + "(" + scenario + ", 1, 0)", 2 * (10 + scenario))
-                .seen(call + "(" + scenario + ", 1, 2)", 2 * (10 + scenario))
+                .seen(call + "(" + scenario + ", 1, 2)", 8)
+                .seen(call + "(" + scenario + ", 0, 2)", 4)
+                .seen(call + "(" + scenario + ", 1, 3)", 2 * (10 + scenario))
                 .seen(call + "(" + scenario + ", 0, 1)", 10 + scenario);
         }
     }
